@@ -347,7 +347,10 @@ public final class RequestCutter {
         }
 
         int byteAt(int w, int i) {
-            return i >= 0 && i < sizeOf(w) ? bytes.at(starts[w] + i) : NONE;
+            if (w < 0 || w >= count || i < 0 || i >= sizes[w]) {
+                return NONE;
+            }
+            return bytes.at(starts[w] + i);
         }
     }
 }
