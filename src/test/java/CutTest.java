@@ -23,76 +23,64 @@ public final class CutTest {
         BENCH.close();
     }
 
-    private static void words(String text, int left, String... words) {
-        BENCH.cutsWords(Bench.holding(text), Bench.shown(text), left, words);
-    }
-
-    private static void waits(String text) {
-        BENCH.cutsNothing(Bench.holding(text), Bench.shown(text));
-    }
-
-    private static void faulty(String text, int fault) {
-        BENCH.cutsFault(Bench.holding(text), Bench.shown(text), fault);
-    }
-
     private static void plainWords() {
-        words("ping\n", 0, "ping");
-        words("ping\r\n", 0, "ping");
-        words("  set  a   b \r\n", 0, "set", "a", "b");
-        words("a\r\r\n", 0, "a\r");
-        words("a\rb \rc\n", 0, "a\rb", "\rc");
-        words("a \r\n", 0, "a");
-        words("a\tb\0c\n", 0, "a\tb\0c");
-        words("\u00ff\u0080\u00fe \u00ff\n", 0, "\u00ff\u0080\u00fe", "\u00ff");
-        words("\n", 0);
-        words("\r\n", 0);
-        words("\r\r\n", 0, "\r");
-        words("   \n", 0);
-        words(" \r\n", 0);
-        words(" \r \n", 0, "\r");
-        words("\n\n", 1);
-        words("a\n\rb\n", 3, "a");
-        words("$3\r\nabc\r\n", 5, "$3");
-        words(" *1\r\n", 0, "*1");
-        words("-1\r\n", 0, "-1");
-        waits("");
-        waits("ping");
-        waits("ping\r");
-        waits(" ");
+        BENCH.words("ping\n", 0, "ping");
+        BENCH.words("ping\r\n", 0, "ping");
+        BENCH.words("  set  a   b \r\n", 0, "set", "a", "b");
+        BENCH.words("a\r\r\n", 0, "a\r");
+        BENCH.words("a\rb \rc\n", 0, "a\rb", "\rc");
+        BENCH.words("a \r\n", 0, "a");
+        BENCH.words("a\tb\0c\n", 0, "a\tb\0c");
+        BENCH.words("\u00ff\u0080\u00fe \u00ff\n", 0, "\u00ff\u0080\u00fe", "\u00ff");
+        BENCH.words("\n", 0);
+        BENCH.words("\r\n", 0);
+        BENCH.words("\r\r\n", 0, "\r");
+        BENCH.words("   \n", 0);
+        BENCH.words(" \r\n", 0);
+        BENCH.words(" \r \n", 0, "\r");
+        BENCH.words("\n\n", 1);
+        BENCH.words("a\n\rb\n", 3, "a");
+        BENCH.words("$3\r\nabc\r\n", 5, "$3");
+        BENCH.words(" *1\r\n", 0, "*1");
+        BENCH.words("-1\r\n", 0, "-1");
+        BENCH.waits("");
+        BENCH.waits("ping");
+        BENCH.waits("ping\r");
+        BENCH.waits(" ");
     }
 
     private static void plainReach() {
-        waits("x".repeat(2047));
-        words("x".repeat(2047) + "\n", 0, "x".repeat(2047));
-        words("x".repeat(2046) + "\r\n", 0, "x".repeat(2046));
-        faulty("x".repeat(2048), 5);
-        faulty("x".repeat(2047) + "\r", 5);
-        faulty(" ".repeat(2048), 5);
-        faulty("x".repeat(2048) + "\n", 5);
-        faulty("x".repeat(2047) + "\r\n", 5);
-        faulty("x".repeat(5000) + "\n", 5);
-        words("\n" + "x".repeat(2048), 2048);
+        BENCH.waits("x".repeat(2047));
+        BENCH.words("x".repeat(2047) + "\n", 0, "x".repeat(2047));
+        BENCH.words("x".repeat(2046) + "\r\n", 0, "x".repeat(2046));
+        BENCH.faulty("x".repeat(2048), 5);
+        BENCH.faulty("x".repeat(2047) + "\r", 5);
+        BENCH.faulty(" ".repeat(2048), 5);
+        BENCH.faulty("x".repeat(2048) + "\n", 5);
+        BENCH.faulty("x".repeat(2047) + "\r\n", 5);
+        BENCH.faulty("x".repeat(5000) + "\n", 5);
+        BENCH.words("\n" + "x".repeat(2048), 2048);
         String[] most = new String[1024];
         Arrays.fill(most, "x");
-        words(String.join(" ", most) + "\n", 0, most);
+        BENCH.words(String.join(" ", most) + "\n", 0, most);
     }
 
     private static void countedWords() {
-        words("*1\r\n$4\r\nping\r\n", 0, "ping");
-        words("*2\r\n$3\r\nget\r\n$0\r\n\r\n", 0, "get", "");
-        words("*3\r\n$1\r\n \r\n$2\r\n\r\n\r\n$4\r\n$1\r\n\r\nrest", 4, " ", "\r\n", "$1\r\n");
-        words("*1\r\n$3\r\n\u00ff\0\u0080\r\n*1\r\n", 4, "\u00ff\0\u0080");
-        words("*000001\r\n$000002\r\nab\r\n", 0, "ab");
-        words("*1\r\n$-0\r\n\r\n", 0, "");
-        words("*1\r\n$-00000\r\n\r\n", 0, "");
+        BENCH.words("*1\r\n$4\r\nping\r\n", 0, "ping");
+        BENCH.words("*2\r\n$3\r\nget\r\n$0\r\n\r\n", 0, "get", "");
+        BENCH.words("*3\r\n$1\r\n \r\n$2\r\n\r\n\r\n$4\r\n$1\r\n\r\nrest", 4, " ", "\r\n", "$1\r\n");
+        BENCH.words("*1\r\n$3\r\n\u00ff\0\u0080\r\n*1\r\n", 4, "\u00ff\0\u0080");
+        BENCH.words("*000001\r\n$000002\r\nab\r\n", 0, "ab");
+        BENCH.words("*1\r\n$-0\r\n\r\n", 0, "");
+        BENCH.words("*1\r\n$-00000\r\n\r\n", 0, "");
     }
 
     private static void countedWithoutWords() {
-        words("*0\r\n", 0);
-        words("*-0\r\n$", 1);
-        words("*-1\r\nx", 1);
-        words("*-999999\r\n\n", 1);
-        words("*000000\r\n", 0);
+        BENCH.words("*0\r\n", 0);
+        BENCH.words("*-0\r\n$", 1);
+        BENCH.words("*-1\r\nx", 1);
+        BENCH.words("*-999999\r\n\n", 1);
+        BENCH.words("*000000\r\n", 0);
     }
 
     private static void countedLimits() {
@@ -104,14 +92,14 @@ public final class CutTest {
         for (String word : most) {
             text.append("$").append(word.length()).append("\r\n").append(word).append("\r\n");
         }
-        words(text + "*", 1, most);
-        waits("*1024\r\n");
-        faulty("*1025\r\n", 1);
-        faulty("*999999\r\n", 1);
-        waits("*1\r\n$16384\r\n" + "w".repeat(9000));
-        faulty("*1\r\n$16385\r\n", 3);
-        faulty("*1\r\n$999999\r\n", 3);
-        words("*1\r\n$9999\r\n" + "w".repeat(9999) + "\r\n", 0, "w".repeat(9999));
+        BENCH.words(text + "*", 1, most);
+        BENCH.waits("*1024\r\n");
+        BENCH.faulty("*1025\r\n", 1);
+        BENCH.faulty("*999999\r\n", 1);
+        BENCH.waits("*1\r\n$16384\r\n" + "w".repeat(9000));
+        BENCH.faulty("*1\r\n$16385\r\n", 3);
+        BENCH.faulty("*1\r\n$999999\r\n", 3);
+        BENCH.words("*1\r\n$9999\r\n" + "w".repeat(9999) + "\r\n", 0, "w".repeat(9999));
         longestWord();
     }
 
@@ -143,17 +131,17 @@ public final class CutTest {
             "*--1\r\n", "*1-\r\n", "*1234567\r\n", "*0000001\r\n", "*-0000001\r\n", "*1\n\r\n", "*1\r\r\n", "*\n1\r\n",
             "*/\r\n", "*:\r\n", "*1/\r\n", "*1:\r\n", "*\u00b1\r\n", "**1\r\n", "*$1\r\n", "*1\rx\r\n", "*x234567890123\r\n"};
         for (String line : lines) {
-            faulty(line, 1);
-            faulty(line + "$1\r\na\r\n", 1);
-            waits(line.substring(0, line.length() - 1));
+            BENCH.faulty(line, 1);
+            BENCH.faulty(line + "$1\r\na\r\n", 1);
+            BENCH.waits(line.substring(0, line.length() - 1));
         }
-        waits("*1\n$1\n12345678\n");
-        faulty("*1\n$1\n123456789\n", 1);
-        faulty("*" + "1".repeat(15), 1);
-        faulty("*" + "1".repeat(14) + "\r", 1);
-        faulty("*" + "1".repeat(14) + "\r\n", 1);
-        faulty("*" + "1".repeat(13) + "\n\r\n", 1);
-        faulty("*" + "1".repeat(13) + "\r\n", 1);
+        BENCH.waits("*1\n$1\n12345678\n");
+        BENCH.faulty("*1\n$1\n123456789\n", 1);
+        BENCH.faulty("*" + "1".repeat(15), 1);
+        BENCH.faulty("*" + "1".repeat(14) + "\r", 1);
+        BENCH.faulty("*" + "1".repeat(14) + "\r\n", 1);
+        BENCH.faulty("*" + "1".repeat(13) + "\n\r\n", 1);
+        BENCH.faulty("*" + "1".repeat(13) + "\r\n", 1);
     }
 
     private static void brokenDollarLines() {
@@ -162,67 +150,67 @@ public final class CutTest {
         String[] heads = {"*1\r\n", "*2\r\n$2\r\nab\r\n"};
         for (String head : heads) {
             for (String line : lines) {
-                faulty(head + line, 3);
-                faulty(head + line + "a\r\n", 3);
-                waits(head + line.substring(0, line.length() - 1));
+                BENCH.faulty(head + line, 3);
+                BENCH.faulty(head + line + "a\r\n", 3);
+                BENCH.waits(head + line.substring(0, line.length() - 1));
             }
-            faulty(head + "$" + "1".repeat(15), 3);
-            faulty(head + "$" + "1".repeat(14) + "\r", 3);
-            faulty(head + "$" + "1".repeat(14) + "\r\n", 3);
-            faulty(head + "$" + "1".repeat(13) + "\r\n", 3);
+            BENCH.faulty(head + "$" + "1".repeat(15), 3);
+            BENCH.faulty(head + "$" + "1".repeat(14) + "\r", 3);
+            BENCH.faulty(head + "$" + "1".repeat(14) + "\r\n", 3);
+            BENCH.faulty(head + "$" + "1".repeat(13) + "\r\n", 3);
         }
     }
 
     /** Without CR LF a LINE is faulty at its sixteenth byte, and not before. */
     private static void unfinishedLines() {
-        waits("*");
-        waits("*x");
-        waits("*9999999");
-        waits("*1\r");
-        waits("*1\rx");
-        waits("*1\n");
-        waits("*" + "1".repeat(14));
-        waits("*" + "1".repeat(13) + "\r");
-        waits("*1\r\n$");
-        waits("*1\r\n$x");
-        waits("*1\r\n$-1\r");
-        waits("*1\r\n$" + "1".repeat(14));
-        waits("*1\r\n$" + "1".repeat(13) + "\r");
+        BENCH.waits("*");
+        BENCH.waits("*x");
+        BENCH.waits("*9999999");
+        BENCH.waits("*1\r");
+        BENCH.waits("*1\rx");
+        BENCH.waits("*1\n");
+        BENCH.waits("*" + "1".repeat(14));
+        BENCH.waits("*" + "1".repeat(13) + "\r");
+        BENCH.waits("*1\r\n$");
+        BENCH.waits("*1\r\n$x");
+        BENCH.waits("*1\r\n$-1\r");
+        BENCH.waits("*1\r\n$" + "1".repeat(14));
+        BENCH.waits("*1\r\n$" + "1".repeat(13) + "\r");
     }
 
     private static void wrongMark() {
-        faulty("*1\r\nx", 2);
-        faulty("*1\r\n*", 2);
-        faulty("*1\r\n\r", 2);
-        faulty("*1\r\n\0", 2);
-        faulty("*1\r\n1\r\na\r\n", 2);
-        faulty("*2\r\n$1\r\na\r\n%", 2);
-        faulty("*1024\r\n\u00a4", 2);
-        words("*1\r\n$1\r\na\r\n%", 1, "a");
+        BENCH.faulty("*1\r\nx", 2);
+        BENCH.faulty("*1\r\n*", 2);
+        BENCH.faulty("*1\r\n\r", 2);
+        BENCH.faulty("*1\r\n\0", 2);
+        BENCH.faulty("*1\r\n1\r\na\r\n", 2);
+        BENCH.faulty("*2\r\n$1\r\na\r\n%", 2);
+        BENCH.faulty("*1024\r\n\u00a4", 2);
+        BENCH.words("*1\r\n$1\r\na\r\n%", 1, "a");
     }
 
     private static void wrongWordEnd() {
-        faulty("*1\r\n$1\r\nab", 4);
-        faulty("*1\r\n$1\r\na\n", 4);
-        faulty("*1\r\n$1\r\na\rb", 4);
-        faulty("*1\r\n$1\r\na\r\r\n", 4);
-        faulty("*1\r\n$0\r\na", 4);
-        faulty("*1\r\n$0\r\n$", 4);
-        faulty("*2\r\n$1\r\na\r\n$1\r\nb\n", 4);
-        faulty("*1\r\n$1\r\n\r\n\r\n", 4);
-        waits("*1\r\n$1\r\na");
-        waits("*1\r\n$1\r\na\r");
-        waits("*1\r\n$2\r\n\r\n");
-        waits("*1\r\n$2\r\n\r\n\r");
+        BENCH.faulty("*1\r\n$1\r\nab", 4);
+        BENCH.faulty("*1\r\n$1\r\na\n", 4);
+        BENCH.faulty("*1\r\n$1\r\na\rb", 4);
+        BENCH.faulty("*1\r\n$1\r\na\r\r\n", 4);
+        BENCH.faulty("*1\r\n$0\r\na", 4);
+        BENCH.faulty("*1\r\n$0\r\n$", 4);
+        BENCH.faulty("*2\r\n$1\r\na\r\n$1\r\nb\n", 4);
+        BENCH.faulty("*1\r\n$1\r\n\r\n\r\n", 4);
+        BENCH.waits("*1\r\n$1\r\na");
+        BENCH.waits("*1\r\n$1\r\na\r");
+        BENCH.waits("*1\r\n$2\r\n\r\n");
+        BENCH.waits("*1\r\n$2\r\n\r\n\r");
     }
 
     private static void firstFaultIsTold() {
-        faulty("*2\r\n$1\r\nabx", 4);
-        faulty("*2\r\n$x\r\nabx", 3);
-        faulty("*2\r\nx$1\r\nabx", 2);
-        faulty("*x\r\nx" + "1".repeat(3000), 1);
-        words("*0\r\n*x\r\n", 4);
-        waits("*1\r\n$99\r\n*x\r\n");
+        BENCH.faulty("*2\r\n$1\r\nabx", 4);
+        BENCH.faulty("*2\r\n$x\r\nabx", 3);
+        BENCH.faulty("*2\r\nx$1\r\nabx", 2);
+        BENCH.faulty("*x\r\nx" + "1".repeat(3000), 1);
+        BENCH.words("*0\r\n*x\r\n", 4);
+        BENCH.waits("*1\r\n$99\r\n*x\r\n");
     }
 
     private static void faultOfTheLatestCut() {

@@ -79,6 +79,33 @@ final class Bench {
         return text.length() > 80 ? out + ".. (" + text.length() + " bytes)" : out.toString();
     }
 
+    /** The text, arriving at once, is cut into exactly these words and leaves so many bytes. */
+    void words(String text, int left, String... words) {
+        cutsWords(holding(text), shown(text), left, words);
+    }
+
+    /** The text, arriving at once, is no whole request and no fault. */
+    void waits(String text) {
+        cutsNothing(holding(text), shown(text));
+    }
+
+    /** The text, arriving at once, is this fault. */
+    void faulty(String text, int fault) {
+        cutsFault(holding(text), shown(text), fault);
+    }
+
+    /** The text, arriving byte by byte, is this fault with its last byte and waits until then. */
+    void faultyWithTheLast(String text, int fault) {
+        RequestCutter cutter = new RequestCutter();
+        for (int n = 1; n <= text.length(); n++) {
+            boolean last = n == text.length();
+            String what = n + " bytes, one by one, of " + shown(text);
+            due(what + ": arrive()", send(cutter, text.substring(n - 1, n)), n);
+            due(what + ": cut()", cutter.cut(), last ? -2 : RequestCutter.NONE);
+            due(what + ": fault()", cutter.fault(), last ? fault : 0);
+        }
+    }
+
     /** A cut that gives exactly these words and leaves so many bytes. */
     void cutsWords(RequestCutter cutter, String what, int left, String... words) {
         due(what + ": cut()", cutter.cut(), words.length);
